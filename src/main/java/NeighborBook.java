@@ -241,7 +241,7 @@ public final class NeighborBook {
 
     private void tellTyped(int type) {
         // Told the same once more is not told something else: no port is hurried then.
-        if (!told.isSame(type, typed, typedCount)) {
+        if (!told.isSame(type, typed, 0, typedCount)) {
             told.keep(type, typed, 0, typedCount);
             hurryAll();
         }
@@ -256,7 +256,7 @@ public final class NeighborBook {
     private int learn(int p) {
         int i = known.find(p, reader.contents());
         if (reader.held() == 0) {
-            // One that is not known and holds 0 never comes to be known: there is none more.
+            // One that was not known never comes to be a neighbour with it, nor one too many.
             known.forget(i);
             return NO_FAULT;
         }
@@ -279,10 +279,10 @@ public final class NeighborBook {
         private final byte[] bytes = new byte[KEPT_TYPES * MOST_CONTENT];
 
         Contents() {
-            Arrays.fill(sizes, NONE);
+            clear();
         }
 
-        static boolean isKept(int type) {
+        private static boolean isKept(int type) {
             return type == WHO || type == WHERE || isMore(type);
         }
 
@@ -295,12 +295,6 @@ public final class NeighborBook {
             Arrays.fill(sizes, NONE);
         }
 
-        void drop(int type) {
-            if (isKept(type)) {
-                sizes[type] = NONE;
-            }
-        }
-
         void keep(int type, byte[] from, int start, int size) {
             if (isKept(type) && size >= 0 && size <= MOST_CONTENT
                     && start >= 0 && start <= from.length - size) {
@@ -309,12 +303,18 @@ public final class NeighborBook {
             }
         }
 
+        void drop(int type) {
+            if (has(type)) {
+                sizes[type] = NONE;
+            }
+        }
+
         boolean has(int type) {
             return sizeOf(type) != NONE;
         }
 
         int sizeOf(int type) {
-            return isKept(type) ? sizes[type] : NONE;
+            return type >= 0 && type < sizes.length ? sizes[type] : NONE;
         }
 
         int byteAt(int type, int k) {
@@ -324,12 +324,13 @@ public final class NeighborBook {
             return bytes[startOf(type) + k] & BYTE_MASK;
         }
 
-        boolean isSame(int type, byte[] other, int size) {
-            if (sizeOf(type) != size || size > other.length) {
+        boolean isSame(int type, byte[] from, int start, int size) {
+            if (sizeOf(type) != size || start < 0 || start > from.length - size) {
                 return false;
             }
+            int own = startOf(type);
             for (int k = 0; k < size; k++) {
-                if (byteAt(type, k) != (other[k] & BYTE_MASK)) {
+                if (bytes[own + k] != from[start + k]) {
                     return false;
                 }
             }
@@ -337,20 +338,8 @@ public final class NeighborBook {
         }
 
         boolean isSameStation(Contents other) {
-            return isSamePart(WHO, other) && isSamePart(WHERE, other);
-        }
-
-        private boolean isSamePart(int type, Contents other) {
-            int size = sizeOf(type);
-            if (size != other.sizeOf(type)) {
-                return false;
-            }
-            for (int k = 0; k < size; k++) {
-                if (byteAt(type, k) != other.byteAt(type, k)) {
-                    return false;
-                }
-            }
-            return true;
+            return isSame(WHO, other.bytes, startOf(WHO), other.sizeOf(WHO))
+                    && isSame(WHERE, other.bytes, startOf(WHERE), other.sizeOf(WHERE));
         }
 
         int typeBits() {
@@ -383,7 +372,6 @@ public final class NeighborBook {
 
         int read(byte[] frame, int length) {
             contents.clear();
-            held = 0;
             int at = 0;
             // No part is shorter than its head, so there are no more parts than this.
             for (int part = 0; part <= MOST_TYPED / HEAD_BYTES; part++) {
@@ -515,7 +503,7 @@ public final class NeighborBook {
     /** One port: when it sends next, and what it has sent and heard. */
     private static final class Port {
         private boolean up;
-        private int wait;
+        private int waitLeft;
         private int quickLeft;
         private int framesSent;
         private int heardWell;
@@ -528,24 +516,24 @@ public final class NeighborBook {
         void goUp(int quick) {
             up = true;
             quickLeft = quick;
-            wait = 1;
+            waitLeft = 1;
         }
 
         void goDown() {
             up = false;
-            wait = 0;
+            waitLeft = 0;
             framesSent++;
         }
 
         void hurry() {
             if (up) {
-                wait = 1;
+                waitLeft = 1;
             }
         }
 
         void greet(int quick) {
             quickLeft = Math.max(quickLeft, quick);
-            wait = 1;
+            waitLeft = 1;
         }
 
         void noteHeard(boolean well) {
@@ -561,15 +549,15 @@ public final class NeighborBook {
             if (!up) {
                 return false;
             }
-            wait--;
-            if (wait > 0) {
+            waitLeft--;
+            if (waitLeft > 0) {
                 return false;
             }
             framesSent++;
             if (quickLeft > 0) {
                 quickLeft--;
             }
-            wait = quickLeft > 0 ? 1 : interval;
+            waitLeft = quickLeft > 0 ? 1 : interval;
             return true;
         }
 
@@ -584,7 +572,7 @@ public final class NeighborBook {
                 case 3:
                     return heardFaulty;
                 case 5:
-                    return wait;
+                    return waitLeft;
                 case 6:
                     return quickLeft;
                 default:
@@ -609,9 +597,7 @@ public final class NeighborBook {
         }
 
         void begin(int p) {
-            contents.clear();
             port = p;
-            ticksLeft = 0;
             frames = 0;
         }
 
@@ -689,7 +675,7 @@ public final class NeighborBook {
             return NONE;
         }
 
-        /** Begins a row behind the others and answers its index; NONE when there is no room. */
+        /** Begins a row behind the others, to be renewed at once: its index; NONE when all are used. */
         int add(int p) {
             if (size >= MOST_NEIGHBORS) {
                 return NONE;

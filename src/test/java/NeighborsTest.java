@@ -78,6 +78,9 @@ public final class NeighborsTest {
         isFault("type 4 cut", 1, start, Bytes.head(4, 2), Bytes.of(1));
         isFault("type 9 cut", 1, start, Bytes.head(9, 511), Bytes.fill(510, 0));
         isFault("type 9 whole", 0, start, Bytes.head(9, 511), Bytes.fill(511, 0), Bytes.END);
+        int[] fill = Bytes.join(Bytes.part(9, Bytes.fill(511, 0)), Bytes.part(9, Bytes.fill(169, 0)));
+        isFault("700 bytes, the end the last of them", 0, start, fill, Bytes.of(18, 0), Bytes.END);
+        isFault("700 bytes without an end", 1, start, fill, Bytes.of(18, 0), Bytes.of(18, 0));
         isFault("type 3 cut", 1, Bytes.part(1, 1, 1), Bytes.part(2, 2, 2), Bytes.head(3, 3), Bytes.of(0, 9));
     }
 
@@ -275,6 +278,8 @@ public final class NeighborsTest {
         int[][] starts = {
             Bytes.join(Bytes.part(1, 1, 2), Bytes.part(2, 3, 4)),
             Bytes.join(Bytes.part(1, 1, 3), Bytes.part(2, 3, 4)),
+            Bytes.join(Bytes.part(1, 2, 2), Bytes.part(2, 3, 4)),
+            Bytes.join(Bytes.part(1, 1, 2), Bytes.part(2, 4, 4)),
             Bytes.join(Bytes.part(1, 1, 2), Bytes.part(2, 3, 5)),
             Bytes.join(Bytes.part(1, 1, 2, 0), Bytes.part(2, 3, 4)),
             Bytes.join(Bytes.part(1, 1, 2), Bytes.part(2, 3, 4, 0)),

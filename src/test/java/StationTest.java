@@ -173,6 +173,12 @@ public final class StationTest {
         Bytes.tell(book, 5, 1, 0);
         due.is("the wait, told a longer type 5", book.about(0, 5), 1);
         book.tick(1);
+        Bytes.tell(book, 5, 1);
+        due.is("the wait, told a shorter type 5", book.about(0, 5), 1);
+        book.tick(1);
+        Bytes.tell(book, 5, 2);
+        due.is("the wait, told another type 5", book.about(0, 5), 1);
+        book.tick(1);
         book.tell(5);
         due.is("the wait, type 5 taken away", book.about(0, 5), 1);
     }
