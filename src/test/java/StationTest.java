@@ -175,7 +175,10 @@ public final class StationTest {
         book.tick(1);
         Bytes.tell(book, 5, 1);
         due.is("the wait, told a shorter type 5", book.about(0, 5), 1);
+        Bytes.tell(book, 6, 7, 7);
         book.tick(1);
+        Bytes.tell(book, 5, 1);
+        due.is("the wait, told the same behind longer ones", book.about(0, 5), 30);
         Bytes.tell(book, 5, 2);
         due.is("the wait, told another type 5", book.about(0, 5), 1);
         book.tick(1);
