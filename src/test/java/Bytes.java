@@ -3,6 +3,7 @@ import java.util.Arrays;
 /** Makes frames of parts and types them into a book. */
 final class Bytes {
     static final int[] END = {0, 0};
+    static final int MOST_TYPED = 700;
 
     private Bytes() {
     }
@@ -27,6 +28,11 @@ final class Bytes {
         return bytes;
     }
 
+    /** The first bytes alone: what is left of a frame that is cut. */
+    static int[] cut(int size, int[] bytes) {
+        return Arrays.copyOf(bytes, size);
+    }
+
     static int[] head(int type, int size) {
         return of(type << 1 | size >> 8, size & 255);
     }
@@ -49,23 +55,33 @@ final class Bytes {
         return join(start(name, ticks), join(more), END);
     }
 
-    static void typeInto(NeighborBook book, int... bytes) {
-        for (int value : bytes) {
-            book.type(value, 1);
+    /** The frame of a station that was told nothing but these parts of types 4 to 8. */
+    static int[] sentBy(int port, int ticks, int[]... more) {
+        return join(part(1, 0, 0), part(2, 0, 0, port), hold(ticks), join(more), END);
+    }
+
+    static void typeInto(Book book, int... bytes) {
+        for (int at = 0; at < bytes.length; at += 8) {
+            int n = Math.min(8, bytes.length - at);
+            long number = 0;
+            for (int k = 0; k < n; k++) {
+                number = number << 8 | bytes[at + k];
+            }
+            book.type(number, n);
         }
     }
 
-    static int hear(NeighborBook book, int p, int... bytes) {
+    static int hear(Book book, int p, int... bytes) {
         typeInto(book, bytes);
         return book.hear(p);
     }
 
-    static int tell(NeighborBook book, int what, int... bytes) {
+    static int tell(Book book, int what, int... bytes) {
         typeInto(book, bytes);
         return book.tell(what);
     }
 
-    static boolean isSent(NeighborBook book, int... bytes) {
+    static boolean isSent(Book book, int... bytes) {
         for (int k = 0; k < bytes.length; k++) {
             if (book.sent(k) != bytes[k]) {
                 return false;

@@ -8,7 +8,7 @@ public final class RandomRunsTest {
     private static final Due due = new Due();
 
     private final Random random;
-    private final NeighborBook book = new NeighborBook();
+    private final Book book = new Book();
     private final PlainBook plain = new PlainBook();
     private int calls;
 
@@ -19,12 +19,24 @@ public final class RandomRunsTest {
     public static void main(String[] args) {
         for (int run = 0; run < RUNS; run++) {
             due.begin("run " + run);
-            RandomRunsTest test = new RandomRunsTest(run);
-            while (test.calls < CALLS) {
-                test.step();
-            }
+            new RandomRunsTest(run).steps();
         }
         due.end();
+    }
+
+    /** Thrown behind the last call of a run, wherever in a step it comes. */
+    private static final class RunIsOver extends RuntimeException {
+        private static final long serialVersionUID = 1;
+    }
+
+    private void steps() {
+        try {
+            while (true) {
+                step();
+            }
+        } catch (RunIsOver over) {
+            due.is("calls", calls, CALLS);
+        }
     }
 
     private int below(int n) {
@@ -39,6 +51,9 @@ public final class RandomRunsTest {
     private void is(String call, int got, int want) {
         calls++;
         due.is("call " + calls + ", " + call, got, want);
+        if (calls == CALLS) {
+            throw new RunIsOver();
+        }
     }
 
     private void type(long bytes, int n) {
