@@ -61,10 +61,6 @@ final class Unchanged {
     }
 
     /** Every call that only tells, with every argument that has an answer and those next to them. */
-    static void everythingNow(Book book) {
-        everythingNow(book, new Answers());
-    }
-
     private static void everythingNow(Book book, Answers answers) {
         ports(book, answers);
         for (int what = -1; what <= 6; what++) {
